@@ -28,6 +28,14 @@ public final class OddTest {
         text(check, 2, 1, 104, 110, 104);
         // 104, 105, 104 have one class and stay.
         text(check, 0, 1, 104, 105, 104);
+        // 108 and 109 are of one class, between those of 104 .. 107 and of 110 and 111.
+        text(check, 2, 1, 110, 109, 110);
+        text(check, 2, 1, 109, 110, 109);
+        text(check, 2, 1, 109, 107, 109);
+        text(check, 0, 1, 109, 108, 109);
+        text(check, 2, 1, 108, 111, 108);
+        text(check, 0, 1, 110, 111, 110);
+        text(check, 10, 104, 104);
         text(check, 2, 124, 104);
         text(check, 0, 125, 104);
         text(check, 2, 125, 110, 105);
