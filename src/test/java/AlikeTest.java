@@ -11,10 +11,6 @@ public final class AlikeTest {
         check.end();
     }
 
-    private static int[] row(int... characters) {
-        return characters;
-    }
-
     private static void pair(Check check, int due, int[] name, int[] text) {
         LookalikeDesk desk = Check.desk(name);
         desk.register();
@@ -25,36 +21,36 @@ public final class AlikeTest {
     }
 
     private static void likeness(Check check) {
-        pair(check, 0, row(1, 2), row(1, 2));
-        pair(check, 0, row(0, 16), row(0, 16));
-        pair(check, NONE, row(1, 2), row(1));
-        pair(check, NONE, row(1), row(17));
-        pair(check, NONE, row(1), row());
+        pair(check, 0, Check.row(1, 2), Check.row(1, 2));
+        pair(check, 0, Check.row(0, 16), Check.row(0, 16));
+        pair(check, NONE, Check.row(1, 2), Check.row(1));
+        pair(check, NONE, Check.row(1), Check.row(17));
+        pair(check, NONE, Check.row(1), Check.row());
         // Both LATIN.
-        pair(check, 1, row(12), row(13, 15));
-        pair(check, 1, row(124), row(0, 104));
-        pair(check, 1, row(1, 105), row(1, 109));
-        pair(check, 1, row(1, 97), row(1, 11));
+        pair(check, 1, Check.row(12), Check.row(13, 15));
+        pair(check, 1, Check.row(124), Check.row(0, 104));
+        pair(check, 1, Check.row(1, 105), Check.row(1, 109));
+        pair(check, 1, Check.row(1, 97), Check.row(1, 11));
         // HAN and KATAKANA have JAPANESE in common.
-        pair(check, 1, row(48), row(72));
-        pair(check, 1, row(55), row(73, 49));
+        pair(check, 1, Check.row(48), Check.row(72));
+        pair(check, 1, Check.row(55), Check.row(73, 49));
         // One set is 0, on either side, or both are.
-        pair(check, 2, row(0, 2), row(0, 18));
-        pair(check, 2, row(0, 18), row(0, 2));
-        pair(check, 2, row(16, 2), row(0, 18));
+        pair(check, 2, Check.row(0, 2), Check.row(0, 18));
+        pair(check, 2, Check.row(0, 18), Check.row(0, 2));
+        pair(check, 2, Check.row(16, 2), Check.row(0, 18));
         // LATIN and CYRILLIC, CYRILLIC and GREEK.
-        pair(check, 3, row(0), row(16));
-        pair(check, 3, row(22), row(38));
+        pair(check, 3, Check.row(0), Check.row(16));
+        pair(check, 3, Check.row(22), Check.row(38));
     }
 
     private static void textsThatAreNoIdentifiers(Check check) {
-        pair(check, 1, row(1, 2), row(1, 120, 2));
-        pair(check, 1, row(1, 2), row(121, 1, 2, 123));
-        pair(check, 1, row(14, 1), row(96, 1));
+        pair(check, 1, Check.row(1, 2), Check.row(1, 120, 2));
+        pair(check, 1, Check.row(1, 2), Check.row(121, 1, 2, 123));
+        pair(check, 1, Check.row(14, 1), Check.row(96, 1));
         // 100 is ARABIC and 14 LATIN; 30 is CYRILLIC.
-        pair(check, 3, row(14), row(100));
-        pair(check, 3, row(30), row(100));
-        pair(check, 1, row(14), row(96));
+        pair(check, 3, Check.row(14), Check.row(100));
+        pair(check, 3, Check.row(30), Check.row(100));
+        pair(check, 1, Check.row(14), Check.row(96));
     }
 
     private static void wrongNames(Check check) {

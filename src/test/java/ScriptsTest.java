@@ -14,27 +14,23 @@ public final class ScriptsTest {
         range(check, 100, 103, 256);
         range(check, 104, 123, 4095);
         range(check, 124, 127, 1);
-        text(check, 4095);
-        text(check, 4095, 96, 104, 112, 115, 120);
-        text(check, 1, 0, 96, 124, 104);
-        text(check, 0, 0, 16);
-        text(check, 1024, 48, 64, 72);
-        text(check, 2048, 48, 80);
-        text(check, 512, 48, 88);
-        text(check, 0, 48, 80, 88);
-        text(check, 0, 80, 64);
-        text(check, 0, 5, 100);
-        text(check, 256, 100, 97, 103);
+        check.dueScripts(4095);
+        check.dueScripts(4095, 96, 104, 112, 115, 120);
+        check.dueScripts(1, 0, 96, 124, 104);
+        check.dueScripts(0, 0, 16);
+        check.dueScripts(1024, 48, 64, 72);
+        check.dueScripts(2048, 48, 80);
+        check.dueScripts(512, 48, 88);
+        check.dueScripts(0, 48, 80, 88);
+        check.dueScripts(0, 80, 64);
+        check.dueScripts(0, 5, 100);
+        check.dueScripts(256, 100, 97, 103);
         check.end();
     }
 
     private static void range(Check check, int from, int to, int set) {
         for (int c = from; c <= to; c++) {
-            text(check, set, c);
+            check.dueScripts(set, c);
         }
-    }
-
-    private static void text(Check check, int set, int... characters) {
-        check.due("scripts of " + java.util.Arrays.toString(characters), Check.desk(characters).scripts(), set);
     }
 }

@@ -1,5 +1,3 @@
-import java.util.Arrays;
-
 /** Promises 4 and 5: skeleton and skeletonAt. */
 public final class SkeletonTest {
     public static void main(String[] args) {
@@ -45,36 +43,31 @@ public final class SkeletonTest {
         due[126] = new int[] {8, 106};
         due[127] = new int[] {13, 15, 107};
         for (int c = 0; c < 128; c++) {
-            LookalikeDesk desk = Check.desk(c);
-            check.dueRow("skeleton of " + c, Check.skeletonOf(desk), due[c]);
+            check.dueSkeleton(Check.row(c), due[c]);
         }
     }
 
-    private static void brought(Check check, int[] text, int... due) {
-        check.dueRow("skeleton of " + Arrays.toString(text), Check.skeletonOf(Check.desk(text)), due);
-    }
-
     private static void marks(Check check) {
-        brought(check, new int[] {1, 110, 108, 104}, 1, 104, 108, 110);
-        brought(check, new int[] {1, 107, 104, 106, 105}, 1, 107, 104, 106, 105);
-        brought(check, new int[] {1, 111, 110, 111}, 1, 111, 110, 111);
-        brought(check, new int[] {110, 104, 1, 110, 104}, 104, 110, 1, 104, 110);
-        brought(check, new int[] {1, 110, 112, 104}, 1, 110, 112, 104);
+        check.dueSkeleton(Check.row(1, 110, 108, 104), 1, 104, 108, 110);
+        check.dueSkeleton(Check.row(1, 107, 104, 106, 105), 1, 107, 104, 106, 105);
+        check.dueSkeleton(Check.row(1, 111, 110, 111), 1, 111, 110, 111);
+        check.dueSkeleton(Check.row(110, 104, 1, 110, 104), 104, 110, 1, 104, 110);
+        check.dueSkeleton(Check.row(1, 110, 112, 104), 1, 110, 112, 104);
         // The order before the prototypes counts: 109 stands behind 104 when it becomes 105.
-        brought(check, new int[] {1, 109, 104}, 1, 104, 105);
-        brought(check, new int[] {1, 109, 104, 105}, 1, 104, 105, 105);
+        check.dueSkeleton(Check.row(1, 109, 104), 1, 104, 105);
+        check.dueSkeleton(Check.row(1, 109, 104, 105), 1, 104, 105, 105);
         // The order behind the prototypes counts too: 105 from 109 goes before 108.
-        brought(check, new int[] {1, 108, 109}, 1, 105, 108);
-        brought(check, new int[] {1, 108, 109, 108, 109}, 1, 105, 105, 108, 108);
-        brought(check, new int[] {127, 104, 110}, 13, 15, 107, 104, 110);
-        brought(check, new int[] {110, 124, 108}, 110, 0, 104, 108);
+        check.dueSkeleton(Check.row(1, 108, 109), 1, 105, 108);
+        check.dueSkeleton(Check.row(1, 108, 109, 108, 109), 1, 105, 105, 108, 108);
+        check.dueSkeleton(Check.row(127, 104, 110), 13, 15, 107, 104, 110);
+        check.dueSkeleton(Check.row(110, 124, 108), 110, 0, 104, 108);
     }
 
     private static void invisible(Check check) {
-        brought(check, new int[] {120, 121, 122, 123});
-        brought(check, new int[] {1, 120, 2, 123}, 1, 2);
+        check.dueSkeleton(Check.row(120, 121, 122, 123));
+        check.dueSkeleton(Check.row(1, 120, 2, 123), 1, 2);
         // They are left out before the text is taken apart, so the marks round one make one run.
-        brought(check, new int[] {1, 110, 121, 104}, 1, 104, 110);
+        check.dueSkeleton(Check.row(1, 110, 121, 104), 1, 104, 110);
     }
 
     private static void places(Check check) {

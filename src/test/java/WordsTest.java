@@ -1,5 +1,3 @@
-import java.util.Arrays;
-
 /** Promises 9 and 10: words and word. */
 public final class WordsTest {
     public static void main(String[] args) {
@@ -14,27 +12,13 @@ public final class WordsTest {
         check.end();
     }
 
-    /** The words of a text as begin, length, begin, length, .. */
-    private static void found(Check check, int[] text, int... due) {
-        LookalikeDesk desk = Check.desk(text);
-        int[] got = new int[2 * desk.words()];
-        for (int i = 0; i < got.length; i++) {
-            got[i] = desk.word(i / 2, i % 2);
-        }
-        check.dueRow("words of " + Arrays.toString(text), got, due);
-    }
-
-    private static int[] row(int... characters) {
-        return characters;
-    }
-
     private static void singleCharacters(Check check) {
-        found(check, row());
+        check.dueWords(Check.row());
         for (int c = 0; c < 128; c++) {
             if (c <= 95 || c >= 124) {
-                found(check, row(c), 0, 1);
+                check.dueWords(Check.row(c), 0, 1);
             } else {
-                found(check, row(c));
+                check.dueWords(Check.row(c));
             }
         }
     }
@@ -42,28 +26,28 @@ public final class WordsTest {
     private static void piecesBehind(Check check) {
         for (int c = 0; c < 128; c++) {
             if (c <= 112 || c >= 124) {
-                found(check, row(115, 1, c), 1, 2);
-                found(check, row(1, 113, c), 0, 3);
-                found(check, row(1, 114, c), 0, 3);
+                check.dueWords(Check.row(115, 1, c), 1, 2);
+                check.dueWords(Check.row(1, 113, c), 0, 3);
+                check.dueWords(Check.row(1, 114, c), 0, 3);
             } else {
-                found(check, row(115, 1, c), 1, 1);
-                found(check, row(1, 113, c), 0, 1);
-                found(check, row(1, 114, c, 2), 0, 1, 3, 1);
+                check.dueWords(Check.row(115, 1, c), 1, 1);
+                check.dueWords(Check.row(1, 113, c), 0, 1);
+                check.dueWords(Check.row(1, 114, c, 2), 0, 1, 3, 1);
             }
         }
     }
 
     private static void joined(Check check) {
-        found(check, row(1, 113), 0, 1);
-        found(check, row(1, 113, 2, 114), 0, 3);
-        found(check, row(1, 113, 2, 114, 104, 113, 112), 0, 7);
-        found(check, row(1, 113, 113, 2), 0, 1, 3, 1);
-        found(check, row(1, 113, 114, 2), 0, 1, 3, 1);
-        found(check, row(113, 1), 1, 1);
-        found(check, row(112, 1), 1, 1);
-        found(check, row(96, 104, 1, 97), 2, 2);
-        found(check, row(96, 112, 104, 103));
-        found(check, row(1, 120, 2), 0, 1, 2, 1);
+        check.dueWords(Check.row(1, 113), 0, 1);
+        check.dueWords(Check.row(1, 113, 2, 114), 0, 3);
+        check.dueWords(Check.row(1, 113, 2, 114, 104, 113, 112), 0, 7);
+        check.dueWords(Check.row(1, 113, 113, 2), 0, 1, 3, 1);
+        check.dueWords(Check.row(1, 113, 114, 2), 0, 1, 3, 1);
+        check.dueWords(Check.row(113, 1), 1, 1);
+        check.dueWords(Check.row(112, 1), 1, 1);
+        check.dueWords(Check.row(96, 104, 1, 97), 2, 2);
+        check.dueWords(Check.row(96, 112, 104, 103));
+        check.dueWords(Check.row(1, 120, 2), 0, 1, 2, 1);
     }
 
     private static void manyWords(Check check) {
