@@ -16,7 +16,8 @@ public final class CharacterEdgesTest {
         runsOfMarks(check);
         classesOfMarks(check);
         marksOfOneClass(check);
-        prototypesOfTwo(check);
+        prototypeOf12(check);
+        prototypeOf55(check);
         prototypesOfEvenCyrillic(check);
         prototypesOfEveryThirdGreek(check);
         prototypesOfPrototypes(check);
@@ -178,10 +179,13 @@ public final class CharacterEdgesTest {
         check.dueOdd(8, 108, 109, 108);
     }
 
-    private static void prototypesOfTwo(Check check) {
+    private static void prototypeOf12(Check check) {
         check.sentence("of 12: 13, 15 (two characters)");
         itself(check, 11, 13, 14, 15);
         check.dueSkeleton(Check.row(12), 13, 15);
+    }
+
+    private static void prototypeOf55(Check check) {
         check.sentence("of 55: 49, 49");
         itself(check, 54, 56);
         check.dueSkeleton(Check.row(55), 49, 49);

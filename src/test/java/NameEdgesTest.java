@@ -20,7 +20,11 @@ public final class NameEdgesTest {
         noSuchPlace(check);
         charactersOfNames(check);
         noSuchNameAt(check);
-        likeness(check);
+        alikeTheSame(check);
+        alikeInCommon(check);
+        alikeNothingInCommonAndNoSet(check);
+        alikeNothingInCommon(check);
+        notAlike(check);
         noSuchNameAlike(check);
         fromOn(check);
         noLookalike(check);
@@ -300,24 +304,36 @@ public final class NameEdgesTest {
                 desk.alike(0), due);
     }
 
-    private static void likeness(Check check) {
+    private static void alikeTheSame(Check check) {
         check.sentence("0 if they are the same");
         pair(check, 0, Check.row(0), Check.row(0));
         pair(check, 0, Check.row(0, 16), Check.row(0, 16));
         pair(check, 0, Check.repeated(127, 48), Check.repeated(127, 48));
+    }
+
+    private static void alikeInCommon(Check check) {
         check.sentence("1 if they look alike and their sets have something in common");
         pair(check, 1, Check.row(12), Check.row(13, 15));
         pair(check, 1, Check.row(48), Check.row(72));
         pair(check, 1, Check.row(14), Check.row(96));
         pair(check, 1, Check.row(16), Check.row(16, 123));
+    }
+
+    private static void alikeNothingInCommonAndNoSet(Check check) {
         check.sentence("2 if they look alike, their sets have nothing in common, and one of these is 0");
         pair(check, 2, Check.row(0, 2), Check.row(0, 18));
         pair(check, 2, Check.row(0, 18), Check.row(0, 2));
         pair(check, 2, Check.row(16, 2), Check.row(0, 18));
+    }
+
+    private static void alikeNothingInCommon(Check check) {
         check.sentence("3 if they look alike, their sets have nothing in common, and none is 0");
         pair(check, 3, Check.row(0), Check.row(16));
         pair(check, 3, Check.row(15), Check.row(47));
         pair(check, 3, Check.row(30), Check.row(100));
+    }
+
+    private static void notAlike(Check check) {
         check.sentence("NONE if they don't look alike");
         pair(check, NONE, Check.row(0), Check.row());
         pair(check, NONE, Check.row(0), Check.row(120));
