@@ -1,9 +1,13 @@
+import java.util.ArrayList;
+import java.util.List;
 import java.util.Random;
 
-/** Promises 1 to 16 together: runs of up to 512 calls, each answer set against the plain desk's. */
+/** Promises 1 to 16 together: runs of 512 calls, each answer set against the plain desk's. */
 public final class AgainstPlainDeskTest {
     private static final int RUNS = 1200;
     private static final int CALLS = 512;
+    private static final int TEXT_LIMIT = 48;
+    private static final int SPACE = 115;
     // Small sets of characters bring about names that look alike; the last one stands for all.
     private static final int[][] POOLS = {
         {0, 16, 32},
@@ -18,14 +22,17 @@ public final class AgainstPlainDeskTest {
     };
 
     private final Random random;
+    private final Twins twins;
     private final int[] pool;
     private final LookalikeDesk desk = new LookalikeDesk();
     private final PlainDesk plain = new PlainDesk();
     private final Check check;
+    private int calls = 0;
 
     private AgainstPlainDeskTest(Check check, int seed) {
         this.check = check;
         random = new Random(seed);
+        twins = new Twins(random);
         pool = POOLS[seed % POOLS.length];
     }
 
@@ -38,13 +45,13 @@ public final class AgainstPlainDeskTest {
     }
 
     private void run() {
-        for (int call = 0; call < CALLS; call++) {
+        while (calls < CALLS) {
             step();
         }
     }
 
     private void step() {
-        switch (random.nextInt(18)) {
+        switch (random.nextInt(22)) {
             case 0, 1, 2, 3 -> type();
             case 4 -> same("wipe", desk::wipe, plain::wipe);
             case 5 -> same("skeleton", desk::skeleton, plain::skeleton);
@@ -58,6 +65,9 @@ public final class AgainstPlainDeskTest {
             case 14 -> askOne(random.nextInt(3) == 0 ? "withdraw" : "ranked", random.nextInt(-1, 13));
             case 15 -> nameAt(random.nextInt(-1, 13), random.nextInt(-1, 12));
             case 16 -> askOne("alike", random.nextInt(-1, 13));
+            case 17, 18 -> putTwin();
+            case 19 -> askLikenesses();
+            case 20 -> askWords();
             default -> askOne("lookalike", random.nextInt(-3, 14));
         }
     }
@@ -68,10 +78,50 @@ public final class AgainstPlainDeskTest {
         for (int i = 0; i < 8; i++) {
             packed = packed << 8 | (random.nextInt(300) == 0 ? random.nextInt(256) : character());
         }
-        long typed = packed;
-        same("type(" + typed + ", " + n + ")", () -> desk.type(typed, n), () -> plain.type(typed, n));
+        type(packed, n);
         if (random.nextInt(6) == 0) {
             same("wipe", desk::wipe, plain::wipe);
+        }
+    }
+
+    /** A name written another way; often with words before it and behind it that look like names too. */
+    private void putTwin() {
+        if (plain.names().isEmpty()) {
+            return;
+        }
+        List<Integer> text = new ArrayList<>(anyTwin());
+        for (int more = random.nextInt(4); more > 0; more--) {
+            text.add(SPACE);
+            text.addAll(anyTwin());
+        }
+        same("wipe", desk::wipe, plain::wipe);
+        typeAll(text.subList(0, Math.min(text.size(), TEXT_LIMIT)));
+    }
+
+    private List<Integer> anyTwin() {
+        return twins.of(plain.names().get(random.nextInt(plain.names().size())));
+    }
+
+    private void typeAll(List<Integer> text) {
+        for (int from = 0; from < text.size(); from += 8) {
+            List<Integer> part = text.subList(from, Math.min(from + 8, text.size()));
+            long typed = Check.packed(part.stream().mapToInt(c -> c).toArray());
+            type(typed, part.size());
+        }
+    }
+
+    private void askLikenesses() {
+        for (int name = 0; name < plain.names().size(); name++) {
+            askOne("alike", name);
+            askOne("ranked", name);
+            askOne("lookalike", name);
+        }
+    }
+
+    private void askWords() {
+        for (int i = 0; i < plain.words(); i++) {
+            word(i, 2);
+            word(i, 3);
         }
     }
 
@@ -98,7 +148,16 @@ public final class AgainstPlainDeskTest {
         }
     }
 
+    private void type(long typed, int n) {
+        same("type(" + typed + ", " + n + ")", () -> desk.type(typed, n), () -> plain.type(typed, n));
+    }
+
     private void same(String what, Check.Call call, Check.Call due) {
+        // What a desk answers behind its 512th call is free.
+        if (calls == CALLS) {
+            return;
+        }
+        calls++;
         check.due(what, Check.outcome(call), Check.outcome(due));
     }
 }

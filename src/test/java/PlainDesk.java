@@ -25,6 +25,10 @@ final class PlainDesk {
     private List<Integer> text = new ArrayList<>();
     private final List<List<Integer>> names = new ArrayList<>();
 
+    List<List<Integer>> names() {
+        return names;
+    }
+
     int type(long characters, int n) {
         if (n < 1 || n > 8) {
             throw new IllegalArgumentException();
